@@ -7,6 +7,7 @@ public final class GoingTest {
         wrongNumbers();
         oneTown();
         waysBetween();
+        toTheDay();
         marksWithoutDie();
         barsByDays();
         fewestAndRivals();
@@ -101,6 +102,49 @@ public final class GoingTest {
         due.is("by the second alone: the third is too late", x.bars(4, 0), 2);
         due.is("goes without the third", x.goes(4, 0, 4), 1);
         due.is("does not go", x.when(4, 0, 1, 1), NONE);
+    }
+
+    private static void toTheDay() {
+        for (int to = 0; to < 6; to++) {
+            for (int from = 0; from < 6; from++) {
+                CoverMarks x = withTowns();
+                put(x, 0, from, "???", 0);
+                put(x, 0, to, "300", 0);
+                if (from != to) {
+                    x.sail(from, to, 250, 300);
+                    x.sail(from, to, 260, 301);
+                }
+                due.is("late by a sailing " + from + " " + to, x.when(0, 0, 0, 1), from == to ? 300 : 250);
+                if (from != to) {
+                    x.road(from, to, 10);
+                    due.is("late by a road " + from + " " + to, x.when(0, 0, 0, 1), 290);
+                    x.sail(to, from, 280, 290);
+                    x.sail(from, to, 291, 299);
+                    due.is("late by a later sailing " + from + " " + to, x.when(0, 0, 0, 1), 291);
+                }
+            }
+        }
+        CoverMarks y = withTowns();
+        put(y, 0, 0, "???", 0);
+        put(y, 0, 5, "100", 0);
+        for (int town = 0; town < 5; town++) {
+            y.sail(town, town + 1, 50 + 5 * town, 55 + 5 * town);
+        }
+        due.is("five sailings, each to the day", y.when(0, 0, 0, 1), 50);
+        y.late(3, 71);
+        due.is("one too late", y.when(0, 0, 0, 1), NONE);
+        y.road(3, 4, 6);
+        due.is("and too far by road", y.bars(0, 0), 1);
+        y.road(3, 4, 5);
+        due.is("by sea and road", y.when(0, 0, 0, 1), 50);
+        due.is("by sea and road", y.when(0, 0, 0, 0), 0);
+        CoverMarks z = withTowns();
+        put(z, 0, 0, "00?", 0);
+        put(z, 0, 1, "005", 0);
+        z.road(0, 1, 6);
+        due.is("no day below 0", z.goes(0, 0, 0), 0);
+        z.road(0, 1, 5);
+        due.is("day 0", z.when(0, 0, 0, 1), 0);
     }
 
     private static void marksWithoutDie() {

@@ -8,7 +8,9 @@ public final class MailTest {
         mails();
         heaps();
         many();
+        manyWithFewDays();
         looks();
+        looksAtEdges();
         looksWithDie();
         due.end();
     }
@@ -114,6 +116,31 @@ public final class MailTest {
         put(x, 5, 2, "1?1", 7);
         due.is("n 3, s 0, t 0", x.many(2, 7), 3);
         due.is("ahead of all looks", x.many(2, 5), 0);
+    }
+
+    private static void manyWithFewDays() {
+        CoverMarks x = withDies();
+        put(x, 0, 0, "12?", 0);
+        put(x, 1, 0, "125", 0);
+        due.is("n 2, s 9, t 1", x.many(0, 0), 2 + 81 / 2);
+        put(x, 2, 0, "999", 0);
+        put(x, 3, 0, "000", 0);
+        due.is("n 4, s 11, t 1", x.many(0, 0), 4 + 121 / 2);
+        put(x, 4, 1, "000", 0);
+        due.is("n 1, s 1, t 0", x.many(1, 0), 1);
+    }
+
+    private static void looksAtEdges() {
+        CoverMarks x = new CoverMarks();
+        x.office(0, 0, 999);
+        // days of which one byte is the same: to read it tells nothing
+        int[][] days = {{0, 0}, {999, 999}, {0, 9}, {990, 999}, {0, 1}, {998, 999}, {9, 10}, {99, 100}};
+        int[] want = {NONE, NONE, 2, 2, 2, 2, 1, 0};
+        for (int i = 0; i < days.length; i++) {
+            x.die(0, 1, days[i][0], days[i][1], NONE);
+            put(x, i, i, "???", 0);
+            due.is("look at days " + days[i][0] + " to " + days[i][1], x.look(i, 0), want[i] == NONE ? NONE : 3 * i + want[i]);
+        }
     }
 
     private static void looks() {

@@ -9,6 +9,7 @@ public final class MarkTest {
         leans();
         abouts();
         spansWithoutDie();
+        everyDayAlone();
         spansWithDie();
         nicks();
         asOf();
@@ -113,6 +114,19 @@ public final class MarkTest {
         due.is("can day 1000", x.can(0, 1000), BAD);
         due.is("can day -1", x.can(0, -1), BAD);
         due.is("can mark -1", x.can(-1, 0), BAD);
+    }
+
+    private static void everyDayAlone() {
+        for (int first = 0; first < 1000; first += 40) {
+            CoverMarks x = new CoverMarks();
+            for (int m = 0; m < 40; m++) {
+                int day = first + m;
+                x.mark(0, 0, NONE, 0, NONE, Due.date(String.format("%03d", day)), NONE, 0);
+                due.is("span of day " + day, x.span(m, 0), 1);
+                due.is("first of day " + day, x.span(m, 1), day);
+                due.is("last of day " + day, x.span(m, 2), day);
+            }
+        }
     }
 
     private static void spansWithDie() {

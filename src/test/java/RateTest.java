@@ -8,6 +8,8 @@ public final class RateTest {
         typing();
         goodTexts();
         faults();
+        everyByte();
+        tokensLeftOut();
         ruleCounts();
         faultsChangeNothing();
         owedBySteps();
@@ -69,7 +71,7 @@ public final class RateTest {
     }
 
     private static void faults() {
-        String[][] texts = {{"", "rates"}, {"", "rat"}, {"", "rat e"}, {"", ";"}, {"", "per"}, {"", "0"}, {"", "Rate"}, {"", "\t"}, {"  ", "#"},
+        String[][] texts = {{"", "rates"}, {"", "rat"}, {"", "rat e"}, {"", "ratez"}, {"", "aa"}, {"", ";"}, {"", "per"}, {"", "0"}, {"", "Rate"}, {"", "\t"}, {"  ", "#"},
             {"", "\u00e9rate"}, {"rate ", "3>"}, {"rate ", "00>1"}, {"rate ", ">1"}, {"rate ", "10000>"}, {"rate ", "99999999999999999999>"},
             {"rate ", "4294967296>1"}, {"rate 0", ",1"}, {"rate ", "01"}, {"rate 0 ", "1"}, {"rate 0>", "3,"}, {"rate 0>", "01,"},
             {"rate 0>1", ">"}, {"rate 0>1,", "1000-"}, {"rate 0>1,", "-"}, {"rate 0>1,999", ":"}, {"rate 0>1,9-", "8:"},
@@ -90,6 +92,36 @@ public final class RateTest {
         }
         fault(RULE + "   ", "");
         fault(RULE + ";rate", "");
+    }
+
+    private static void everyByte() {
+        for (int b = 0; b < 256; b++) {
+            String sign = String.valueOf((char) b);
+            due.is("byte " + b + " alone", read(sign), b == 32 ? 0 : -10);
+            due.is("byte " + b + " behind a rule", read(RULE + ";" + sign), b == 32 ? 1 : -10 - RULE.length() - 1);
+            due.is("byte " + b + " in a rule", read(RULE + " " + sign + ";"), b == 32 ? 1 : -10 - RULE.length() - 1 - (b == '+' || b == ';' ? 1 : 0));
+        }
+    }
+
+    /** All beginnings of a rule with all ends of it: what stands between is left out or comes twice. */
+    private static void tokensLeftOut() {
+        String[] tokens = "rate 0 > 1 , 2 - 9 : 5 per 7 + 3 part 1 / 2 due ;".split(" ");
+        for (int first = 0; first <= tokens.length; first++) {
+            for (int second = 0; second <= tokens.length; second++) {
+                StringBuilder text = new StringBuilder();
+                for (int i = 0; i < first; i++) {
+                    text.append(tokens[i]).append(' ');
+                }
+                for (int i = second; i < tokens.length; i++) {
+                    text.append(tokens[i]).append(' ');
+                }
+                PlainCoverMarks plain = new PlainCoverMarks();
+                for (int i = 0; i < text.length(); i++) {
+                    plain.type(text.charAt(i), 1);
+                }
+                due.is("rates of '" + text + "'", read(text.toString()), plain.rates());
+            }
+        }
     }
 
     private static void ruleCounts() {
