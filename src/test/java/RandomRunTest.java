@@ -11,6 +11,8 @@ public final class RandomRunTest {
     private final int covers;
     private final int towns;
     private final int days;
+    /** Of so many bytes of a date or stretches of days one is narrow: with more of them covers go. */
+    private final int ease;
     private final String run;
 
     private RandomRunTest(int seed) {
@@ -18,6 +20,7 @@ public final class RandomRunTest {
         covers = 1 + dice.nextInt(8);
         towns = 2 + dice.nextInt(5);
         days = new int[] {30, 100, 300, 1000}[dice.nextInt(4)];
+        ease = 1 + dice.nextInt(8);
         run = "seed " + seed + " ";
     }
 
@@ -72,7 +75,7 @@ public final class RandomRunTest {
         String told = String.valueOf(1000 + dice.nextInt(days)).substring(1);
         char[] signs = told.toCharArray();
         for (int i = 0; i < 3; i++) {
-            signs[i] = dice.nextInt(2) == 0 ? '?' : signs[i];
+            signs[i] = dice.nextInt(1 + ease) != 0 ? '?' : signs[i];
         }
         int date = Due.date(new String(signs));
         return dice.nextInt(100) == 0 ? date ^ 1 << dice.nextInt(32) : date;
@@ -83,16 +86,39 @@ public final class RandomRunTest {
     }
 
     private int looked() {
-        return below(50);
+        return below(20);
     }
 
-    private int newDie(int office) {
-        int from = dice.nextInt(1 + days / 3);
-        int till = dayFrom(from, days);
-        int inks = below(16) | (dice.nextInt(2) == 0 ? 3 : 0);
+    /** All days, or some of them: where a stretch begins. */
+    private int firstDay() {
+        return dice.nextInt(ease) == 0 ? below(1 + days / 3) : 0;
+    }
+
+    private int lastDay(int from) {
+        return dice.nextInt(ease) == 0 ? dayFrom(from, days) : 999;
+    }
+
+    private void newOffice(int town) {
+        int from = firstDay();
+        int till = lastDay(from);
+        due.is(run + "office", x.office(town, from, till), y.office(town, from, till));
+    }
+
+    private void newDie(int office) {
+        int from = firstDay();
+        int till = lastDay(from);
+        int inks = below(16) | (dice.nextInt(ease) != 0 ? 3 : 0);
         int nick = orNone(day());
         due.is(run + "die", x.die(office, inks, from, till, nick), y.die(office, inks, from, till, nick));
-        return 0;
+    }
+
+    /** How many marks with a die a cover has: places and bits beyond them are asked for now and then only. */
+    private int chain(int cover, int asOf) {
+        int many = 0;
+        for (int m = 0; m < x.count(2); m++) {
+            many += x.about(m, 0) == cover && x.about(m, 4) <= asOf && x.about(m, 2) != NONE ? 1 : 0;
+        }
+        return many;
     }
 
     private void build(int what) {
@@ -101,7 +127,7 @@ public final class RandomRunTest {
         int from = day();
         switch (what) {
             case 0: { int v = below(3); due.is(run + "town", x.town(a, v), y.town(a, v)); break; }
-            case 1: { int f = below(1 + days / 4), t = dayFrom(f, 1000); due.is(run + "office", x.office(a, f, t), y.office(a, f, t)); break; }
+            case 1: newOffice(a); break;
             case 2: newDie(below(x.count(0))); break;
             case 3: case 4: { int t = dayFrom(from, 40); due.is(run + "sail", x.sail(a, b, from, t), y.sail(a, b, from, t)); break; }
             case 5: { int s = below(x.count(3)), c = orNone(day()); due.is(run + "late", x.late(s, c), y.late(s, c)); break; }
@@ -114,7 +140,7 @@ public final class RandomRunTest {
     private void newMark() {
         int cover = cover(), kind = below(6), ink = below(dice.nextInt(2) == 0 ? 2 : 4);
         int die = dice.nextInt(5) == 0 ? NONE : below(x.count(1));
-        int nick = dice.nextInt(2) == 0 ? NONE : below(2);
+        int nick = dice.nextInt(ease) != 0 ? NONE : below(2);
         int date = date(), sum = orNone(below(1000)), looked = looked();
         due.is(run + "mark", x.mark(cover, kind, die, ink, nick, date, sum, looked), y.mark(cover, kind, die, ink, nick, date, sum, looked));
     }
@@ -128,15 +154,15 @@ public final class RandomRunTest {
             case 3: { int d = day(); due.is(run + "can", x.can(mark, d), y.can(mark, d)); break; }
             case 4: due.is(run + "marks", x.marks(cover, asOf), y.marks(cover, asOf)); break;
             case 5: case 6: { int f = below(towns), d = day(), t = below(towns); due.is(run + "soonest", x.soonest(f, d, t), y.soonest(f, d, t)); break; }
-            case 7: { int s = dice.nextInt(3) == 0 ? 0 : below(64); due.is(run + "goes", x.goes(cover, asOf, s), y.goes(cover, asOf, s)); break; }
-            case 8: case 9: { int i = below(4), l = below(2); due.is(run + "when", x.when(cover, asOf, i, l), y.when(cover, asOf, i, l)); break; }
+            case 7: { int s = dice.nextInt(3) == 0 ? 0 : below(1 << Math.min(11, chain(cover, asOf))); due.is(run + "goes", x.goes(cover, asOf, s), y.goes(cover, asOf, s)); break; }
+            case 8: case 9: { int i = below(chain(cover, asOf)), l = below(2); due.is(run + "when", x.when(cover, asOf, i, l), y.when(cover, asOf, i, l)); break; }
             case 10: due.is(run + "bars", x.bars(cover, asOf), y.bars(cover, asOf)); break;
             default: { int w = below(3); due.is(run + "fewest", x.fewest(cover, asOf, w), y.fewest(cover, asOf, w)); break; }
         }
     }
 
     private void askRatesAndMails(int what) {
-        int cover = cover(), asOf = looked(), from = below(3), to = below(3), d = day(), grams = 1 + below(2000);
+        int cover = cover(), asOf = looked(), from = below(dice.nextInt(5) == 0 ? 3 : 2), to = below(2), d = day(), grams = 1 + below(2000);
         switch (what) {
             case 0: due.is(run + "trace", x.trace(), y.trace()); break;
             case 1: { int w = below(7); due.is(run + "count", x.count(w), y.count(w)); break; }
@@ -159,8 +185,8 @@ public final class RandomRunTest {
     }
 
     private String someRule() {
-        int first = dice.nextInt(days);
-        String[] tokens = {"rate", "" + below(3), ">", "" + below(3), ",", "" + first, "-", "" + dayFrom(first, days), ":", "" + below(1000),
+        int first = firstDay();
+        String[] tokens = {"rate", "" + below(2), ">", "" + below(2), ",", "" + first, "-", "" + lastDay(first), ":", "" + below(1000),
             "per", "" + (1 + below(dice.nextInt(2) == 0 ? 500 : 30))};
         StringBuilder rule = new StringBuilder();
         for (String token : tokens) {
