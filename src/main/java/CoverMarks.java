@@ -1003,7 +1003,6 @@ public final class CoverMarks {
             otherSum = 0;
             partA = 1;
             partB = 1;
-            due = false;
         }
 
         boolean holds(int from, int to, int day) {

@@ -15,6 +15,9 @@ public final class GoingEdgeTest {
         setsOfEachSize();
         soonAndLateAtTheEnds();
         soonAndLateOfTen();
+        lateOnDayZero();
+        lateThroughAllTowns();
+        lateByTheLastOfTwenty();
         lateIsNotOfTheFirstAlone();
         aDayOfItsOwnBetween();
         noneIfItDoesNotGo();
@@ -239,6 +242,67 @@ public final class GoingEdgeTest {
         }
         for (int i = 0; i < 10; i++) {
             whenIs("ten, to and fro", x, i, 30 * i, 999 - 30 * (9 - i));
+        }
+    }
+
+    private static void lateOnDayZero() {
+        CoverMarks x = withTowns();
+        put(x, 0, "00?");
+        put(x, 1, "005");
+        x.road(0, 1, 5);
+        whenIs("a road from day 0 on", x, 0, 0, 0);
+        x.road(0, 1, 4);
+        whenIs("a road a day shorter", x, 0, 0, 1);
+        x.road(0, 1, 6);
+        whenIs("a road a day longer", x, 0, NONE, NONE);
+        CoverMarks y = withTowns();
+        put(y, 0, "???");
+        put(y, 1, "???");
+        y.sail(0, 1, 0, 0);
+        whenIs("a sailing on day 0 alone", y, 0, 0, 0);
+        whenIs("a sailing on day 0 alone", y, 1, 0, 999);
+    }
+
+    /** A way through all six towns by sailings, by roads, by both, told in either order. */
+    private static void lateThroughAllTowns() {
+        for (int ways = 0; ways < 32; ways++) {
+            for (int order = 0; order < 2; order++) {
+                CoverMarks x = withTowns();
+                CoverMarks y = withTowns();
+                for (int k = 0; k < 5; k++) {
+                    int i = order == 0 ? k : 4 - k;
+                    boolean road = (ways >> i & 1) == 1;
+                    oneStep(x, road, i, i + 1, 100 + 10 * i);
+                    oneStep(y, road, 5 - i, 4 - i, 100 + 10 * i);
+                }
+                // all roads: one may set out on any day; else on the day that makes the first sailing
+                int late = ways == 31 ? 999 - 50 : 100;
+                put(x, 0, "???");
+                put(x, 5, "???");
+                whenIs("towns 0 to 5, ways " + ways, x, 0, 0, late);
+                put(y, 5, "???");
+                put(y, 0, "???");
+                whenIs("towns 5 to 0, ways " + ways, y, 0, 0, late);
+            }
+        }
+    }
+
+    private static void oneStep(CoverMarks x, boolean road, int from, int to, int day) {
+        if (road) {
+            x.road(from, to, 10);
+        } else {
+            x.sail(from, to, day, day + 10);
+        }
+    }
+
+    private static void lateByTheLastOfTwenty() {
+        CoverMarks x = withTowns();
+        put(x, 0, "???");
+        put(x, 1, "???");
+        for (int s = 0; s < 20; s++) {
+            x.sail(0, 1, 40 * s, 40 * s + 9);
+            whenIs("by sailing " + s, x, 0, 0, 40 * s);
+            whenIs("by sailing 0", x, 1, 9, 999);
         }
     }
 

@@ -1,3 +1,5 @@
+import java.util.Arrays;
+
 /** Part 3 of the document (the text, the rates, what is owed), sentence by sentence: what it says at its edges. */
 public final class RateEdgeTest {
     private static final int NONE = CoverMarks.NONE, BAD = CoverMarks.BAD, FULL = CoverMarks.FULL;
@@ -27,6 +29,7 @@ public final class RateEdgeTest {
         bytesThatBeginNone();
         words();
         endsTooEarly();
+        tokensLeftOut();
         firstFaultOfSeveral();
         faultLeavesTextAndRates();
         ratesReplaceRates();
@@ -160,6 +163,16 @@ public final class RateEdgeTest {
         x.clear();
         Due.type(x, "rate");
         due.is("ends behind the new text", x.rates(), -14);
+        x.clear();
+        Due.type(x, "rate 12");
+        x.clear();
+        Due.type(x, "rate 1");
+        due.is("no figure of the old text", x.rates(), -16);
+        x.clear();
+        Due.type(x, "rates");
+        x.clear();
+        Due.type(x, "rate");
+        due.is("no letter of the old text", x.rates(), -14);
     }
 
     private static void emptyText() {
@@ -182,6 +195,7 @@ public final class RateEdgeTest {
         due.is("a fault at byte 599", read(" ".repeat(599) + "x"), -609);
         due.is("600 bytes that end too early", read(" ".repeat(596) + "rate"), -610);
         due.is("600 bytes that end too early", read(States.blanksTo("rate 0", 600)), -610);
+        due.is("600 bytes that end in a number", read(" ".repeat(594) + "rate 1"), -610);
         due.is("599 bytes that end too early", read(" ".repeat(595) + "rate"), -609);
         due.is("a word of 600", read("r".repeat(600)), -10);
         due.is("a number of 590", read("rate " + "1".repeat(590)), -15);
@@ -453,7 +467,7 @@ public final class RateEdgeTest {
 
     /** "a word that is none of these" */
     private static void words() {
-        String[] none = {"r", "ra", "rat", "rates", "ratee", "rrate", "arate", "rateper", "a", "z", "pe", "pers", "par", "parts", "du", "dues", "dude", "etar"};
+        String[] none = {"r", "ra", "rat", "rates", "ratee", "rrate", "arate", "rateper", "a", "z", "pe", "pers", "par", "parts", "du", "dues", "dude", "etar", "ratea", "ratez", "perz", "partz", "duez", "az", "zz"};
         for (String word : none) {
             fault("|" + word + " 0>1,0-9:7 per 5;");
             fault("rate 0>1,0-9:7 |" + word + " 5;");
@@ -492,6 +506,26 @@ public final class RateEdgeTest {
         fault("rate 0>1,0-9:7 |pe");
         fault("rate 0>1,0-9:7 per 5 |par");
         fault("rate 0>1,0-9:7 per 5 |du");
+    }
+
+    /** Each token behind each begin of a rule: where it can't stand the fault is its. */
+    private static void tokensLeftOut() {
+        String[] tokens = {"rate", "0", ">", "1", ",", "2", "-", "9", ":", "7", "per", "5", "+", "3", "part", "1", "/", "2", "due", ";"};
+        // behind the first sum's grams, the other sum, the part: these may be left out
+        boolean[][] leftOut = new boolean[20][20];
+        leftOut[12][14] = leftOut[12][18] = leftOut[12][19] = leftOut[14][18] = leftOut[14][19] = leftOut[18][19] = true;
+        StringBuilder begin = new StringBuilder();
+        for (int i = 0; i < tokens.length; i++) {
+            for (int j = 0; j < tokens.length; j++) {
+                boolean bothNumbers = Character.isDigit(tokens[i].charAt(0)) && Character.isDigit(tokens[j].charAt(0));
+                if (!tokens[i].equals(tokens[j]) && !bothNumbers && !leftOut[i][j]) {
+                    fault(begin + "|" + tokens[j]);
+                    fault(begin + "|" + tokens[j] + " " + String.join(" ", tokens));
+                    fault(begin + "|" + String.join(" ", Arrays.copyOfRange(tokens, j, tokens.length)));
+                }
+            }
+            begin.append(tokens[i]).append(' ');
+        }
     }
 
     /** "the first TOKEN that can't stand there" */
@@ -541,8 +575,8 @@ public final class RateEdgeTest {
 
     /** "THE TEXT becomes THE RATES, and is empty then" */
     private static void ratesReplaceRates() {
-        CoverMarks x = withRates("rate 0>1,0-9:7 per 5+2 part 1/2 due;rate 1>1,0-9:7 per 5;", 2);
-        for (int i = 0; i < 3; i++) {
+        CoverMarks x = withRates("rate 0>1,0-9:7 per 5+2 part 2/3 due;rate 1>1,0-9:7 per 5;", 2);
+        for (int i = 1; i <= 3; i++) {
             Due.type(x, "rate 0>1,0-8:" + i + " per 5;");
             due.is("one rule", x.rates(), 1);
             due.is("the text is empty", x.count(5), 0);
