@@ -4,8 +4,8 @@ import java.util.function.Consumer;
 import java.util.function.Supplier;
 
 /**
- * All that an object answers. Since an object is good for 512 calls, it is asked in parts, each of
- * a new object of the same state: two states are one if all parts answer the same.
+ * Some 800 answers over all that an object holds. Since an object is good for 512 calls, it is asked in
+ * parts, each of a new object of the same state: two states are taken for one if all parts answer the same.
  */
 final class Snapshot {
     private static final int PARTS = 4;
