@@ -11,6 +11,10 @@ final class Due {
         }
     }
 
+    int asked() {
+        return asked;
+    }
+
     void end() {
         System.out.println(asked + " answers, " + wrong + " not as due");
         if (wrong != 0 || asked == 0) {

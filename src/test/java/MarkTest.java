@@ -9,6 +9,7 @@ public final class MarkTest {
         leans();
         abouts();
         spansWithoutDie();
+        everyDayOfADate();
         everyDayAlone();
         spansWithDie();
         nicks();
@@ -101,11 +102,6 @@ public final class MarkTest {
             for (int what = 0; what < 3; what++) {
                 due.is("span " + dates[m] + " " + what, x.span(m, what), want[m][what]);
             }
-            for (int day = 0; day < 1000; day++) {
-                String signs = String.format("%03d", day);
-                boolean fits = signs.matches(dates[m].replace('?', '.'));
-                due.is("can " + dates[m] + " " + day, x.can(m, day), fits ? 1 : 0);
-            }
         }
         due.is("span what 3", x.span(0, 3), BAD);
         due.is("span what -1", x.span(0, -1), BAD);
@@ -114,6 +110,22 @@ public final class MarkTest {
         due.is("can day 1000", x.can(0, 1000), BAD);
         due.is("can day -1", x.can(0, -1), BAD);
         due.is("can mark -1", x.can(-1, 0), BAD);
+    }
+
+    /** An object is good for 512 calls: a hundred days are asked of each. */
+    private static void everyDayOfADate() {
+        String[] dates = {"???", "12?", "1?3", "?23", "456", "??9", "000", "999"};
+        for (String date : dates) {
+            CoverMarks x = null;
+            for (int day = 0; day < 1000; day++) {
+                if (day % 100 == 0) {
+                    x = new CoverMarks();
+                    x.mark(0, 0, NONE, 0, 1, Due.date(date), NONE, 0);
+                }
+                boolean fits = String.format("%03d", day).matches(date.replace('?', '.'));
+                due.is("can " + date + " " + day, x.can(0, day), fits ? 1 : 0);
+            }
+        }
     }
 
     private static void everyDayAlone() {

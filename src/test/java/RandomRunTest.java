@@ -14,6 +14,7 @@ public final class RandomRunTest {
     /** Of so many bytes of a date or stretches of days one is narrow: with more of them covers go. */
     private final int ease;
     private final String run;
+    private final int askedBefore = due.asked();
 
     private RandomRunTest(int seed) {
         dice = new Random(seed);
@@ -25,7 +26,7 @@ public final class RandomRunTest {
     }
 
     public static void main(String[] args) {
-        int seeds = args.length > 0 ? Integer.parseInt(args[0]) : 150;
+        int seeds = args.length > 0 ? Integer.parseInt(args[0]) : 240;
         for (int seed = 0; seed < seeds; seed++) {
             new RandomRunTest(seed).go();
         }
@@ -34,7 +35,7 @@ public final class RandomRunTest {
 
     private void go() {
         int asks = 100 + dice.nextInt(412);
-        for (int i = 0; i < asks; i++) {
+        for (int i = 0; i < asks && callsLeft() > 0; i++) {
             boolean early = i < asks / 3;
             int what = dice.nextInt(early ? 13 : 32);
             if (what < 13 && (early || dice.nextInt(3) == 0)) {
@@ -45,6 +46,11 @@ public final class RandomRunTest {
                 askRatesAndMails(dice.nextInt(12));
             }
         }
+    }
+
+    /** An object is good for 512 calls; each answer that is compared is one. */
+    private int callsLeft() {
+        return 512 - (due.asked() - askedBefore);
     }
 
     /** A number below a bound; now and then one that may be wrong. */
@@ -115,8 +121,8 @@ public final class RandomRunTest {
     /** How many marks with a die a cover has: places and bits beyond them are asked for now and then only. */
     private int chain(int cover, int asOf) {
         int many = 0;
-        for (int m = 0; m < x.count(2); m++) {
-            many += x.about(m, 0) == cover && x.about(m, 4) <= asOf && x.about(m, 2) != NONE ? 1 : 0;
+        for (int m = 0; m < y.count(2); m++) {
+            many += y.about(m, 0) == cover && y.about(m, 4) <= asOf && y.about(m, 2) != NONE ? 1 : 0;
         }
         return many;
     }
@@ -128,9 +134,9 @@ public final class RandomRunTest {
         switch (what) {
             case 0: { int v = below(3); due.is(run + "town", x.town(a, v), y.town(a, v)); break; }
             case 1: newOffice(a); break;
-            case 2: newDie(below(x.count(0))); break;
+            case 2: newDie(below(y.count(0))); break;
             case 3: case 4: { int t = dayFrom(from, 40); due.is(run + "sail", x.sail(a, b, from, t), y.sail(a, b, from, t)); break; }
-            case 5: { int s = below(x.count(3)), c = orNone(day()); due.is(run + "late", x.late(s, c), y.late(s, c)); break; }
+            case 5: { int s = below(y.count(3)), c = orNone(day()); due.is(run + "late", x.late(s, c), y.late(s, c)); break; }
             case 6: { int d = orNone(1 + below(30)); due.is(run + "road", x.road(a, b, d), y.road(a, b, d)); break; }
             case 7: writeRates(); break;
             default: newMark(); break;
@@ -139,14 +145,14 @@ public final class RandomRunTest {
 
     private void newMark() {
         int cover = cover(), kind = below(6), ink = below(dice.nextInt(2) == 0 ? 2 : 4);
-        int die = dice.nextInt(5) == 0 ? NONE : below(x.count(1));
+        int die = dice.nextInt(5) == 0 ? NONE : below(y.count(1));
         int nick = dice.nextInt(ease) != 0 ? NONE : below(2);
         int date = date(), sum = orNone(below(1000)), looked = looked();
         due.is(run + "mark", x.mark(cover, kind, die, ink, nick, date, sum, looked), y.mark(cover, kind, die, ink, nick, date, sum, looked));
     }
 
     private void askMarks(int what) {
-        int mark = below(x.count(2)), cover = cover(), asOf = looked();
+        int mark = below(y.count(2)), cover = cover(), asOf = looked();
         switch (what) {
             case 0: { int kind = below(6); due.is(run + "lean", x.lean(kind, mark), y.lean(kind, mark)); break; }
             case 1: { int w = below(5); due.is(run + "about", x.about(mark, w), y.about(mark, w)); break; }
@@ -175,7 +181,7 @@ public final class RandomRunTest {
             }
             case 6: { int o = cover(); due.is(run + "mail", x.mail(cover, o, asOf), y.mail(cover, o, asOf)); break; }
             case 7: due.is(run + "heap", x.heap(cover, asOf), y.heap(cover, asOf)); break;
-            case 8: case 9: { int die = below(x.count(1)); due.is(run + "many", x.many(die, asOf), y.many(die, asOf)); break; }
+            case 8: case 9: { int die = below(y.count(1)); due.is(run + "many", x.many(die, asOf), y.many(die, asOf)); break; }
             default: due.is(run + "look", x.look(cover, asOf), y.look(cover, asOf)); break;
         }
     }
@@ -203,6 +209,9 @@ public final class RandomRunTest {
     }
 
     private void writeRates() {
+        if (callsLeft() < 10) {
+            return;
+        }
         StringBuilder text = new StringBuilder();
         for (int r = dice.nextInt(8) == 0 ? 14 : dice.nextInt(6); r > 0; r--) {
             text.append(someRule());
@@ -216,7 +225,7 @@ public final class RandomRunTest {
                 default: text.setLength(at); break;
             }
         }
-        for (int at = 0; at < text.length(); ) {
+        for (int at = 0; at < text.length() && callsLeft() > 2; ) {
             int n = Math.min(text.length() - at, 1 + dice.nextInt(8));
             long v = Due.pack(text.substring(at, at + n)) | (n < 8 ? dice.nextLong() << 8 * n : 0);
             due.is(run + "type", x.type(v, n), y.type(v, n));
