@@ -23,6 +23,7 @@ public final class GoingEdgeTest {
         noneIfItDoesNotGo();
         barsAtEachPlace();
         barsTheFirstOfSeveral();
+        goingAsOfADay();
         moreThanTen();
         moreThanTenOfAnother();
         moreThanTenAsOfADay();
@@ -381,6 +382,31 @@ public final class GoingEdgeTest {
         due.is("without it the next bars: it does not go", x.goes(0, 0, 4), 0);
         due.is("without both", x.goes(0, 0, 12), 1);
         due.is("without the one that is too late", x.goes(0, 0, 2), 0);
+    }
+
+    /** "A COVER GOES (as of a DAY)": asked of an earlier day, marks looked at later neither bar nor have a place. */
+    private static void goingAsOfADay() {
+        CoverMarks x = withTowns();
+        x.mark(0, 0, 0, 0, NONE, Due.date("5??"), NONE, 10);
+        x.mark(0, 0, 0, 0, NONE, Due.date("6??"), NONE, 30);
+        x.mark(0, 0, 0, 0, NONE, Due.date("550"), NONE, 20);
+        // by day: whether it goes, bars, soon and late of place 0, fewest, the set, rivals, bits that there are
+        int[][] want = {{9, 1, NONE, BAD, BAD, 0, 0, 1, 0}, {10, 1, NONE, 500, 599, 0, 0, 1, 1}, {19, 1, NONE, 500, 599, 0, 0, 1, 1},
+            {20, 1, NONE, 500, 550, 0, 0, 1, 3}, {29, 1, NONE, 500, 550, 0, 0, 1, 3}, {30, 0, 2, NONE, NONE, 1, 2, 2, 7}, {999, 0, 2, NONE, NONE, 1, 2, 2, 7}};
+        for (int[] w : want) {
+            String told = "as of " + w[0] + ": ";
+            due.is(told + "goes", x.goes(0, w[0], 0), w[1]);
+            due.is(told + "bars", x.bars(0, w[0]), w[2]);
+            due.is(told + "soon", x.when(0, w[0], 0, 0), w[3]);
+            due.is(told + "late", x.when(0, w[0], 0, 1), w[4]);
+            for (int what = 0; what < 3; what++) {
+                due.is(told + "fewest " + what, x.fewest(0, w[0], what), w[5 + what]);
+            }
+            due.is(told + "all let be", x.goes(0, w[0], w[8]), 1);
+            due.is(told + "a bit beyond", x.goes(0, w[0], w[8] + 1), BAD);
+        }
+        due.is("as of 20 place 1 is the last mark's", x.when(0, 20, 1, 0), 550);
+        due.is("as of 20 there is no place 2", x.when(0, 20, 2, 0), BAD);
     }
 
     /** "where a COVER has more than 10 of them what is asked of its GOING is STATE" */

@@ -1,5 +1,7 @@
-import java.util.ArrayList;
-import java.util.List;
+import java.util.LinkedHashMap;
+import java.util.Map;
+import java.util.Set;
+import java.util.TreeSet;
 import java.util.function.Consumer;
 import java.util.function.Supplier;
 
@@ -9,114 +11,135 @@ import java.util.function.Supplier;
  */
 final class Snapshot {
     private static final int PARTS = 4;
+    private final CoverMarks x;
+    private final Map<String, Long> answers = new LinkedHashMap<>();
 
-    private Snapshot() {
+    private Snapshot(CoverMarks x) {
+        this.x = x;
     }
 
     /** Whether some calls (refused ones, or questions) leave a state as it was. */
     static boolean staysAfter(Supplier<CoverMarks> state, Consumer<CoverMarks> calls) {
+        return changedBy(state, calls).isEmpty();
+    }
+
+    /** The questions whose answers are others when some calls have been made. */
+    static Set<String> changedBy(Supplier<CoverMarks> state, Consumer<CoverMarks> calls) {
+        Set<String> changed = new TreeSet<>();
         for (int part = 0; part < PARTS; part++) {
             CoverMarks touched = state.get();
             calls.accept(touched);
-            if (!answers(state.get(), part).equals(answers(touched, part))) {
-                return false;
+            Map<String, Long> before = answers(state.get(), part);
+            Map<String, Long> after = answers(touched, part);
+            for (String asked : before.keySet()) {
+                if (!before.get(asked).equals(after.get(asked))) {
+                    changed.add(asked);
+                }
             }
         }
-        return true;
+        return changed;
     }
 
-    private static List<Long> answers(CoverMarks x, int part) {
-        List<Long> all = new ArrayList<>();
+    private static Map<String, Long> answers(CoverMarks x, int part) {
+        Snapshot taken = new Snapshot(x);
         switch (part) {
-            case 0: things(x, all); break;
-            case 1: goings(x, all); break;
-            case 2: rates(x, all); break;
-            default: days(x, all); break;
+            case 0: taken.things(); break;
+            case 1: taken.goings(); break;
+            case 2: taken.rates(); break;
+            default: taken.days(); break;
         }
-        return all;
+        return taken.answers;
     }
 
-    private static void things(CoverMarks x, List<Long> all) {
+    private void ask(String name, int... a) {
+        askThen("", name, a);
+    }
+
+    private void askThen(String then, String name, int... a) {
+        answers.put(then + Calls.told(name, a), Calls.ask(x, name, a));
+    }
+
+    private void things() {
         for (int what = 0; what < 7; what++) {
-            all.add((long) x.count(what));
+            ask("count", what);
         }
-        all.add(x.trace());
+        ask("trace");
         for (int m = 0; m < 40; m++) {
             for (int what = 0; what < 5; what++) {
-                all.add((long) x.about(m, what));
+                ask("about", m, what);
             }
         }
         for (int a = 0; a < 6; a++) {
-            all.add((long) x.town(a, 0));
+            ask("town", a, 0);
             for (int b = 0; b < a; b++) {
-                all.add((long) x.road(a, b, CoverMarks.NONE));
+                ask("road", a, b, CoverMarks.NONE);
             }
         }
         for (int s = 0; s < 20; s++) {
-            all.add((long) x.late(s, CoverMarks.NONE));
+            ask("late", s, CoverMarks.NONE);
         }
     }
 
-    private static void goings(CoverMarks x, List<Long> all) {
+    private void goings() {
         for (int c = 0; c < 8; c++) {
-            all.add((long) x.marks(c, 0));
-            all.add((long) x.marks(c, 999));
-            all.add((long) x.goes(c, 999, 0));
-            all.add((long) x.bars(c, 999));
-            all.add((long) x.heap(c, 999));
-            all.add((long) x.look(c, 999));
+            ask("marks", c, 0);
+            ask("marks", c, 999);
+            ask("goes", c, 999, 0);
+            ask("bars", c, 999);
+            ask("heap", c, 999);
+            ask("look", c, 999);
             for (int what = 0; what < 3; what++) {
-                all.add((long) x.fewest(c, 999, what));
+                ask("fewest", c, 999, what);
             }
             for (int other = 0; other < c; other++) {
-                all.add((long) x.mail(c, other, 999));
+                ask("mail", c, other, 999);
             }
         }
         for (int d = 0; d < 12; d++) {
-            all.add((long) x.many(d, 999));
+            ask("many", d, 999);
         }
         for (int a = 0; a < 6; a++) {
             for (int b = 0; b < 6; b++) {
-                all.add((long) x.soonest(a, 30, b));
+                ask("soonest", a, 30, b);
             }
         }
     }
 
-    private static void rates(CoverMarks x, List<Long> all) {
-        owedOfAllLands(x, all);
-        all.add((long) x.count(5));
-        all.add((long) x.rates());
-        owedOfAllLands(x, all);
-        all.add((long) x.count(4));
-        all.add((long) x.clear());
+    private void rates() {
+        owedOfAllLands("");
+        ask("count", 5);
+        ask("rates");
+        owedOfAllLands("then ");
+        askThen("then ", "count", 4);
+        askThen("then ", "clear");
     }
 
-    private static void owedOfAllLands(CoverMarks x, List<Long> all) {
+    private void owedOfAllLands(String then) {
         for (int from = 0; from < 3; from++) {
             for (int to = 0; to < 3; to++) {
                 for (int what = 0; what < 4; what++) {
-                    all.add((long) x.owed(from, to, 5, 16, what));
+                    askThen(then, "owed", from, to, 5, 16, what);
                 }
-                all.add((long) x.owed(from, to, 0, 2000, 1));
+                askThen(then, "owed", from, to, 0, 2000, 1);
                 for (int what = 0; what < 3; what++) {
-                    all.add((long) x.weights(from, to, 5, 7, what));
+                    askThen(then, "weights", from, to, 5, 7, what);
                 }
             }
         }
     }
 
-    private static void days(CoverMarks x, List<Long> all) {
+    private void days() {
         for (int m = 0; m < 40; m++) {
             for (int what = 0; what < 3; what++) {
-                all.add((long) x.span(m, what));
+                ask("span", m, what);
             }
-            all.add((long) x.can(m, 110 + m));
-            all.add((long) x.lean(3, m));
-            all.add((long) x.lean(4, m));
+            ask("can", m, 110 + m);
+            ask("lean", 3, m);
+            ask("lean", 4, m);
         }
         for (int i = 0; i < 10; i++) {
-            all.add((long) x.when(1, 999, i, 0));
-            all.add((long) x.when(1, 999, i, 1));
+            ask("when", 1, 999, i, 0);
+            ask("when", 1, 999, i, 1);
         }
     }
 }
